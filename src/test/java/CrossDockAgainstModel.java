@@ -10,8 +10,8 @@ import java.util.Random;
  * document anew. The seed of a run is its number, so a fault comes again.
  */
 public final class CrossDockAgainstModel {
-    private static final int RUNS = 400;
-    private static final int CALLS = 256;
+    private static final int RUNS = 240;
+    private static final int CALLS = 512;
 
     public static void main(String[] args) {
         int wrong = 0;
