@@ -474,6 +474,12 @@ public final class CrossDockEdges {
         }
         x.match(20000);
         duePairs("the last has the first rank", x, 0, 3, 1, 0, 2, 1, 0, 1, 1, 0, 0, 1);
+        x = arrivalsOf(3);
+        x.order(0, 1, 1, 0);
+        x.order(0, 1, 9, 0);
+        x.order(0, 1, 5, 0);
+        x.match(20000);
+        duePairs("the last has the middle rank", x, 0, 0, 1, 0, 2, 1, 0, 1, 1);
     }
 
     private static void planOrderOfArrivals() {
@@ -543,7 +549,6 @@ public final class CrossDockEdges {
         x.order(0, 1, 1, 0);
         // The first pair 1, behind it 0; the first pair 0, behind it 1 and 0.
         Checks.due("two pairs of one order", stepsOf(x, 20000), 5);
-        x.promised(0, 0);
         x.undo(0);
         x.promised(0, 1);
         Checks.due("two pairs, the first of nothing", stepsOf(x, 20000), 3);
