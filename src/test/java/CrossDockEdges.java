@@ -2,7 +2,8 @@ import java.util.NoSuchElementException;
 
 /**
  * The document's sentences that name a boundary, in the document's order, each by a test of its
- * own. A refused call is made on one of two equal objects, which must be equal afterwards too.
+ * own. A refused call, but for a few amid a longer run, is made on one of two equal objects, which
+ * must be equal afterwards too.
  */
 public final class CrossDockEdges {
     private interface Scene {
